@@ -881,7 +881,7 @@ public final class TabTrails {
 
     /** The tape, and what is read from it: a web that stands only if no fault was met. */
     private static final class Reader {
-        private static final int END = -1, NUMBER = -2, NO_TOKEN = -3;
+        private static final int END = -1, NUMBER = -2, LONG_NUMBER = -3;
         private static final int WRONG_TOKEN = 1, WRONG_NUMBER = 2, NO_ROOM = 3, MOST_FIGURES = 2;
 
         final int[] tape = new int[MOST_BYTES];
@@ -890,7 +890,7 @@ public final class TabTrails {
         int length = 0;
         int faultNumber = 0;
         int faultPlace = 0;
-        /** The token that comes next: its first byte's place, what it is (a letter or sign is itself), its value. */
+        /** The token that comes next: its first byte's place, what it is (a letter or sign is itself), a number's value. */
         private int start = 0;
         private int token = END;
         private int value = 0;
@@ -1020,12 +1020,11 @@ public final class TabTrails {
                 at++;
             }
             if (at > start) {
-                token = at - start <= MOST_FIGURES ? NUMBER : NO_TOKEN;
+                token = at - start <= MOST_FIGURES ? NUMBER : LONG_NUMBER;
                 return;
             }
-            int first = byteAt(at);
-            boolean letterOrSign = first >= 'a' && first <= 'z' || first == ',' || first == ';';
-            token = letterOrSign || first == END ? first : NO_TOKEN;
+            // A byte that is no token needs no mark of its own: it can stand nowhere, either.
+            token = byteAt(at);
             at++;
         }
 

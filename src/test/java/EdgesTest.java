@@ -10,6 +10,7 @@ public final class EdgesTest {
     private static final String[] TAPES = {
         "w2;l0;l1;p0;", "w5;l1,2;l2,0,3;l3;l4,4;l4;p0;s1;n2;g0;k1;", "w8;l1;l2;l3;l4;l5;l6;l7;l0,1,2;k7;n0;", "w3;l1;l2;l0;n0;n1;"};
 
+    private static final Calls CALLS_OF_PROGRAM = new Calls(TabTrails.class);
     private static final java.util.List<String> CHANGES = java.util.List.of(
         "row", "set", "copy", "drop", "feed", "web", "follow", "back", "forward", "select", "open", "close", "again", "undo",
         "restore", "ask");
@@ -49,10 +50,6 @@ public final class EdgesTest {
         return answer <= -1000001 && answer >= -1000015;
     }
 
-    private static boolean changesNothing(String name) {
-        return !CHANGES.contains(name);
-    }
-
     private static void run(Checks checks, int number) {
         Random random = new Random(number * 104729L + 7);
         TabTrails x = new TabTrails();
@@ -60,16 +57,16 @@ public final class EdgesTest {
             Checks.read(x, TAPES[number % TAPES.length]);
         }
         for (int i = 0; i < CALLS; i++) {
-            int call = random.nextInt(Calls.NAMES.length);
+            String name = Calls.NAMES[random.nextInt(Calls.NAMES.length)];
             int[] values = {edge(random), edge(random), edge(random), edge(random), edge(random)};
-            String told = Calls.NAMES[call] + java.util.Arrays.toString(values) + " in run " + number;
+            String told = name + java.util.Arrays.toString(values) + " in run " + number;
             String before = seen(x);
             int status = x.status();
             try {
-                int answer = Calls.ofProgram(x, call, values);
+                int answer = CALLS_OF_PROGRAM.make(x, name, values);
                 // A set item may hold any number, so its answer may look like a refusal.
-                boolean refused = isRefusal(answer) && !Calls.NAMES[call].equals("set");
-                if (refused || changesNothing(Calls.NAMES[call])) {
+                boolean refused = isRefusal(answer) && !name.equals("set");
+                if (refused || !CHANGES.contains(name)) {
                     checks.yes(told + " changed nothing", before.equals(seen(x)));
                 }
                 if (refused && answer >= TabTrails.FULL) {
@@ -78,7 +75,7 @@ public final class EdgesTest {
                     checks.due("status() of " + told, x.status(), -1000010 - answer);
                 }
             } catch (RuntimeException thrown) {
-                checks.yes(told + " threw " + thrown, false);
+                checks.yes(told + " threw " + thrown.getCause(), false);
             }
         }
     }

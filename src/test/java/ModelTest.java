@@ -6,6 +6,9 @@ public final class ModelTest {
     /** Acts come more often than other calls, so that trails grow. */
     private static final String[] ACTS = {"follow", "follow", "follow", "back", "forward", "select", "open", "close", "again", "undo"};
 
+    private static final Calls CALLS_OF_PROGRAM = new Calls(TabTrails.class);
+    private static final Calls CALLS_OF_MODEL = new Calls(Model.class);
+
     private final Checks checks;
     private final Random random;
     private final int run;
@@ -25,9 +28,8 @@ public final class ModelTest {
 
     private void call(String name, int... given) {
         int[] values = java.util.Arrays.copyOf(given, 5);
-        int number = Calls.of(name);
-        int want = Calls.ofModel(model, number, values);
-        int got = Calls.ofProgram(program, number, values);
+        int want = CALLS_OF_MODEL.make(model, name, values);
+        int got = CALLS_OF_PROGRAM.make(program, name, values);
         calls++;
         checks.due("run " + run + ", call " + calls + ": " + name + java.util.Arrays.toString(given), got, want);
     }

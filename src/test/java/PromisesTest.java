@@ -217,6 +217,10 @@ public final class PromisesTest {
         due("undo()", x.undo(), STATE);
         due("again()", x.again(), STATE);
         due("trail(0, 1)", x.trail(0, 1), NONE);
+        int[] links = {2, 1, 1, 1};
+        for (int page = 0; page < 4; page++) {
+            due("page(" + page + ", 0)", x.page(page, 0), links[page]);
+        }
     }
 
     private static void wrongTokens() {
@@ -518,9 +522,9 @@ public final class PromisesTest {
         countsAre(x, 0, 4, 3, 2, 2, 0, 1, 4, 0);
         due("undo() of select()", x.undo(), 3);
         due("undo() of forward()", x.undo(), 2);
-        due("count(4)", x.count(4), 0);
+        countsAre(x, 0, 4, 3, 0, 0, 0, 1, 2, 0);
         due("undo() of back()", x.undo(), 1);
-        due("count(4)", x.count(4), 1);
+        countsAre(x, 0, 4, 3, 0, 1, 0, 1, 1, 0);
         due("undo() of follow()", x.undo(), 0);
         countsAre(x, 0, 4, 3, 0, 0, 0, 0, 0, 0);
         trailIs(x, 0, 0);
@@ -987,6 +991,7 @@ public final class PromisesTest {
         due("kind(4)", x.kind(4), 2);
         due("restore(1), as often as one likes", x.restore(1), 1);
         due("count(2)", x.count(2), 4);
+        due("undo(), behind again(), too", x.undo(), STATE);
         due("restore(0)", x.restore(0), STATE);
     }
 
