@@ -796,8 +796,8 @@ public final class TabTrails {
 
         /** A tab at a place of a row that has room, now; what it held before must be overwritten. */
         private Tab addTab(int place) {
-            int at = Math.max(0, Math.min(place, Math.min(tabs, MOST_TABS - 1)));
-            int last = Math.min(tabs, MOST_TABS - 1);
+            int last = Math.max(0, Math.min(tabs, MOST_TABS - 1));
+            int at = Math.max(0, Math.min(place, last));
             Tab fresh = row[last];
             for (int i = last; i > at; i--) {
                 row[i] = row[i - 1];
