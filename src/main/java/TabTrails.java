@@ -1180,10 +1180,11 @@ public final class TabTrails {
             }
         }
 
-        /** A guess by which a link could not be followed tells no page, so it does not fit. */
+        /** A link that cannot be followed does nothing: what is shown stays, and is compared all the same. */
         private int bitIfFits(Web web, Desk desk, int bit) {
             for (int k = 0; k < toldPages; k++) {
-                if (!guess.press(web, PRESS_LINK, desk.hasRoom()) || guess.shownPage() != told[k]) {
+                guess.press(web, PRESS_LINK, desk.hasRoom());
+                if (guess.shownPage() != told[k]) {
                     return 0;
                 }
             }

@@ -578,8 +578,9 @@ final class Model {
     private static boolean tells(Web start, int[] items) {
         Web w = start;
         for (int item : items) {
-            w = followed(w, 0);
-            if (w == null || w.page() != item) {
+            Web next = followed(w, 0);
+            w = next == null ? w : next;
+            if (w.page() != item) {
                 return false;
             }
         }

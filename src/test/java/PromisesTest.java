@@ -845,18 +845,29 @@ public final class PromisesTest {
         due("fits(0, 0, 0, 7, 3) of a plain one", plain.fits(0, 0, 0, 7, 3), 15);
     }
 
+    /** A link that cannot be followed leaves what is shown, and that is what the row must tell. */
     private static void pinnedWithoutRoom() {
-        TabTrails x = Checks.told("w2;l0;l0;n0;p0;p0;p0;p1;");
-        setAll(x, 0, 0, 0);
-        due("fits(0, 0, 0, 2, 0)", x.fits(0, 0, 0, 2, 0), 2 + 4 + 16 + 32);
-        due("fits(0, 0, 0, 2, 1)", x.fits(0, 0, 0, 2, 1), 0);
-        due("fits(0, 0, 0, 2, 2)", x.fits(0, 0, 0, 2, 2), 0);
-        due("fits(0, 0, 0, 2, 3)", x.fits(0, 0, 0, 2, 3), 0);
+        TabTrails x = Checks.told("w3;l1;l2;l0;n0;p0;p0;p0;p1;");
+        setAll(x, 0, 0, 0, 1, 2, 1, 1);
+        due("fits(0, 0, 0, 1, 0), pinned alone", x.fits(0, 0, 0, 1, 0), 8);
+        due("fits(0, 0, 0, 2, 0), pinned alone", x.fits(0, 0, 0, 2, 0), 8);
+        due("fits(0, 0, 2, 2, 0), all but pinned", x.fits(0, 0, 2, 2, 0), 2 + 4 + 16 + 32);
+        due("fits(0, 0, 1, 2, 0), neither stays nor goes", x.fits(0, 0, 1, 2, 0), 0);
+        due("fits(0, 0, 0, 2, 1)", x.fits(0, 0, 0, 2, 1), 1);
+        due("fits(0, 0, 4, 2, 1)", x.fits(0, 0, 4, 2, 1), 2);
+        due("fits(0, 0, 2, 2, 1)", x.fits(0, 0, 2, 2, 1), 0);
+        due("fits(0, 0, 0, 2, 2), wherever it leads", x.fits(0, 0, 0, 2, 2), 7);
+        due("fits(0, 0, 4, 2, 2)", x.fits(0, 0, 4, 2, 2), 0);
+        due("fits(0, 0, 0, 2, 3), wherever home is", x.fits(0, 0, 0, 2, 3), 7);
+        due("fits(0, 0, 4, 2, 3)", x.fits(0, 0, 4, 2, 3), 0);
         x.select(4);
+        due("fits(0, 0, 4, 2, 0), another tab as pinned", x.fits(0, 0, 4, 2, 0), 8);
+        due("fits(0, 0, 4, 2, 1), it is plain", x.fits(0, 0, 4, 2, 1), 0);
         x.close();
         x.select(0);
-        due("fits(0, 0, 0, 2, 0)", x.fits(0, 0, 0, 2, 0), 62);
-        due("fits(0, 0, 0, 2, 1)", x.fits(0, 0, 0, 2, 1), 3);
+        due("fits(0, 0, 0, 2, 0), with room", x.fits(0, 0, 0, 2, 0), 0);
+        due("fits(0, 0, 2, 2, 0), with room", x.fits(0, 0, 2, 2, 0), 62);
+        due("fits(0, 0, 2, 2, 1), with room", x.fits(0, 0, 2, 2, 1), 1);
     }
 
     private static void chanceIs(TabTrails x, int page, int n, int above, int below) {
