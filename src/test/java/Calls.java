@@ -26,6 +26,13 @@ final class Calls {
         }
     }
 
+    int takes(String name) {
+        if (!methods.containsKey(name)) {
+            throw new IllegalStateException("no such call: " + name);
+        }
+        return methods.get(name).getParameterCount();
+    }
+
     /** The answer by as many of the values as the call takes; what it throws is thrown. */
     int make(Object x, String name, int[] values) {
         Method method = methods.get(name);

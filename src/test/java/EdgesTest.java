@@ -22,30 +22,6 @@ public final class EdgesTest {
         return draw < 4 ? random.nextInt(8) : draw < 9 ? EDGES[random.nextInt(EDGES.length)] : random.nextInt();
     }
 
-    /** All that calls can see of an object without changing it; asks are left out, since they write the trace. */
-    private static String seen(TabTrails x) {
-        StringBuilder text = new StringBuilder();
-        text.append(x.fault()).append(' ');
-        for (int i = 0; i < 9; i++) {
-            text.append(x.count(i)).append(' ');
-        }
-        for (int tab = 0; tab < 5; tab++) {
-            text.append(x.kind(tab)).append(' ').append(x.tab(tab, 1)).append(' ').append(x.tab(tab, 3)).append(' ');
-            for (int k = 0; k < 7; k++) {
-                text.append(x.trail(tab, k)).append(' ');
-            }
-        }
-        for (int page = 0; page < 8; page++) {
-            for (int what = 0; what < 5; what++) {
-                text.append(x.page(page, what)).append(' ');
-            }
-        }
-        for (int i = 0; i < 17; i++) {
-            text.append(x.trace(i)).append(' ');
-        }
-        return text.toString();
-    }
-
     private static boolean isRefusal(int answer) {
         return answer <= -1000001 && answer >= -1000015;
     }
@@ -60,14 +36,14 @@ public final class EdgesTest {
             String name = Calls.NAMES[random.nextInt(Calls.NAMES.length)];
             int[] values = {edge(random), edge(random), edge(random), edge(random), edge(random)};
             String told = name + java.util.Arrays.toString(values) + " in run " + number;
-            String before = seen(x);
+            String before = Views.untouched(x);
             int status = x.status();
             try {
                 int answer = CALLS_OF_PROGRAM.make(x, name, values);
                 // A set item may hold any number, so its answer may look like a refusal.
                 boolean refused = isRefusal(answer) && !name.equals("set");
                 if (refused || !CHANGES.contains(name)) {
-                    checks.yes(told + " changed nothing", before.equals(seen(x)));
+                    checks.yes(told + " changed nothing", before.equals(Views.untouched(x)));
                 }
                 if (refused && answer >= TabTrails.FULL) {
                     checks.due("status() behind " + told, x.status(), status);
