@@ -471,7 +471,7 @@ public final class TabTrails {
         }
 
         boolean hasPage(int page) {
-            return page >= 0 && page < size;
+            return page >= 0 && page < size && page < MOST_PAGES;
         }
 
         int linksOf(int page) {

@@ -1,4 +1,4 @@
-/** Sentences of the document that name a boundary case, and the runs that test them. */
+/** Sentences of the document, and the runs that test them. */
 final class Bounds {
     /** Page 0 leads to 1, 2; 1 to 2, 0, 3; 2 to 3; 3 to 4, 4; 4 to itself. */
     static final String PAGES = "w5;l1,2;l2,0,3;l3;l4,4;l4;";
@@ -15,6 +15,7 @@ final class Bounds {
     void says(String words) {
         sentence = words;
         sentences++;
+        checks.yes("the document says \"" + words + "\"", Document.says(words));
     }
 
     /** A new object. */
